@@ -27,6 +27,7 @@ public final class PromisesTest {
         member();
         waiting();
         groupOrder();
+        queueOrder();
         feature();
         forward();
         forwardChains();
@@ -53,6 +54,7 @@ public final class PromisesTest {
         room();
         link();
         linkAgain();
+        nextBelowAcked();
         forged();
         bit();
         record();
@@ -378,6 +380,53 @@ public final class PromisesTest {
         due("line 4 is away", x.line(4, 5), 1);
         due("its call is the next", x.line(2, 2), 2);
         due("the last still waits", x.line(6, 2), 4);
+    }
+
+    private static void queueOrder() {
+        promise = 6;
+        town(1, 0);
+        usualPlan();
+        x.waiting(0, 0, 5);
+        x.member(0, 6);
+        x.member(0, 7);
+        call(0, 7);
+        due("the first member", x.line(6, 1), 5);
+        hang(0);
+        call(0, 7);
+        due("the first was free later: the second", x.line(7, 1), 5);
+        hang(0);
+        // Calls 0 .. 3 are made in this order, and come to the group in another one.
+        lift(6);
+        for (int l = 0; l < 4; l++) lift(l);
+        dialAll(3, 7);
+        due("3 rings line 7", x.line(3, 2), 2);
+        int ringing = x.told(0) - 1;
+        dialAll(2, 7);
+        dialAll(0, 7);
+        dialAll(1, 7);
+        due("three wait", x.group(0, 0, 0), 3);
+        x.tick(ringing + 300 - x.told(0));
+        x.tick(1);
+        due("four wait", x.group(0, 0, 0), 4);
+        int[] order = {3, 2, 0, 1};
+        lift(7);
+        hang(7);
+        for (int i = 0; i < 4; i++) {
+            for (int j = 0; j < 4; j++) {
+                due("place " + j, x.line(order[j], 2), j < i ? NONE : j == i ? 2 : 4);
+            }
+            hang(order[i]);
+        }
+        // Both ring in vain: the later one waits ahead of the earlier one.
+        hang(6);
+        call(0, 7);
+        call(1, 7);
+        x.tick(302);
+        due("both wait", x.group(0, 0, 0), 2);
+        lift(6);
+        hang(6);
+        due("the later one rings", x.line(1, 2), 2);
+        due("the earlier one waits", x.line(0, 2), 4);
     }
 
     // ---- 7
@@ -1329,7 +1378,37 @@ public final class PromisesTest {
         due("all acked", x.link(0, 1), 3);
     }
 
-    /** Lines 0 and 1 are to send twelve keys; the unit of line 0's is turned into another. */
+    private static void turnInto(int exchange, int n, String sent, String due) {
+        for (int k = 0; k < due.length(); k++) {
+            if (due.charAt(k) != sent.charAt(k)) x.spoil(exchange, n, k);
+        }
+    }
+
+    private static void nextBelowAcked() {
+        promise = 24;
+        town(4, 0);
+        usualPlan();
+        for (int l = 0; l < 3; l++) x.hook(l, true);
+        x.tick(1);
+        for (int l = 0; l < 3; l++) {
+            x.dial(l, 3);
+            x.dial(l, 2);
+            x.dial(l, 4 + l);
+        }
+        // IAMs go in ticks 3, 4, 5, ACMs come back in units 5, 6, 7: these are lost or forged.
+        x.lose(1, 5);
+        turnInto(1, 6, text(2, 1, 2, 1, 1, 2), text(0, 0, 0, 1));
+        turnInto(1, 7, text(3, 1, 3, 1, 2, 2), text(3, 0, 0, 1));
+        x.tick(8);
+        due("another BIB: all go again", x.link(0, 2), 1);
+        due("nothing is acked", x.link(0, 1), 0);
+        x.tick(1);
+        due("all are acked", x.link(0, 1), 3);
+        due("NEXT was below", x.link(0, 2), 3);
+        due("FIB", x.link(0, 4), 0);
+    }
+
+    /** Line 0 is to send twelve keys; the bits of that unit are turned into another's. */
     private static void forge(int circuits, String unit) {
         town(circuits, 0);
         usualPlan();
@@ -1342,9 +1421,7 @@ public final class PromisesTest {
         lift(0);
         for (int k = 0; k < 12; k++) x.dial(0, 9);
         x.tick(11);
-        for (int k = 0; k < unit.length(); k++) {
-            if (unit.charAt(k) != sent.charAt(k)) x.spoil(0, 12, k);
-        }
+        turnInto(0, 12, sent, unit);
         x.tick(3);
     }
 

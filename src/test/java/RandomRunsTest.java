@@ -317,7 +317,8 @@ public final class RandomRunsTest {
         } else if (choice < 85) {
             crowd();
         } else if (choice < 86) {
-            fillRoom();
+            if (random.nextBoolean()) fillRoom();
+            else queueUp();
         } else if (choice < 88) {
             secondCall();
         } else if (choice < 89) {
@@ -410,6 +411,40 @@ public final class RandomRunsTest {
             ask(11, l, random.nextInt(16001) - 8000);
         }
         for (int i = 0; i < 20; i++) ticks(1);
+    }
+
+    /** Lines come to a group in another order than their calls were made, and leave it again. */
+    private void queueUp() {
+        int e = random.nextInt(2), g = random.nextInt(3);
+        ask(4, e, g, 10);
+        ask(0, 7);
+        ask(0, g);
+        if (ask(2, e, 2, 3, g, 0) < 0) ask(1);
+        for (int l = 8 * e; l < 8 * e + 8; l++) ask(9, l, 0);
+        ticks(60);
+        int first = 8 * e + random.nextInt(3);
+        ask(3, g, 8 * e);
+        ask(3, g, 8 * e + 1);
+        for (int l = first; l < 8 * e + 8; l++) {
+            ask(9, l, 1);
+            if (random.nextBoolean()) ticks(1);
+        }
+        ticks(1);
+        for (int i = 0; i < 14; i++) {
+            int l = first + random.nextInt(8 * e + 8 - first);
+            if (plain.line(l, 1) != 1) continue;
+            ask(10, l, 7);
+            ask(10, l, g);
+            ticks(2);
+        }
+        for (int i = 0; i < 16; i++) {
+            int l = 8 * e + random.nextInt(8);
+            if (random.nextBoolean()) {
+                ask(9, l, random.nextInt(2));
+                ticks(some(1, 40));
+            }
+            ticks(some(1, 20, 100, 250, 300));
+        }
     }
 
     /** A line that talks is called by another one, and may forward that. */
