@@ -81,6 +81,38 @@ final class PlainTown {
         }
     }
 
+    /** The call whose number, as CountedTown has them, stands first, with what is behind it. */
+    int ask(int... c) {
+        switch (c[0]) {
+            case 0: return key(c[1]);
+            case 1: return keyless();
+            case 2: return plan(c[1], c[2], c[3], c[4], c[5]);
+            case 3: return member(c[1], c[2]);
+            case 4: return waiting(c[1], c[2], c[3]);
+            case 5: return feature(c[1], c[2], c[3] != 0);
+            case 6: return forward(c[1], c[2]);
+            case 7: return tariff(c[1], c[2], c[3], c[4], c[5]);
+            case 8: return credit(c[1], c[2]);
+            case 9: return hook(c[1], c[2] != 0);
+            case 10: return dial(c[1], c[2]);
+            case 11: return say(c[1], c[2]);
+            case 12: return spoil(c[1], c[2], c[3]);
+            case 13: return lose(c[1], c[2]);
+            case 14: return tick(c[1]);
+            case 15: return line(c[1], c[2]);
+            case 16: return partner(c[1]);
+            case 17: return heard(c[1]);
+            case 18: return circuit(c[1], c[2]);
+            case 19: return speech(c[1], c[2]);
+            case 20: return group(c[1], c[2], c[3]);
+            case 21: return room(c[1], c[2]);
+            case 22: return link(c[1], c[2]);
+            case 23: return bit(c[1], c[2], c[3]);
+            case 24: return record(c[1], c[2]);
+            default: return told(c[1]);
+        }
+    }
+
     static boolean in(int v, int low, int high) {
         return v >= low && v <= high;
     }

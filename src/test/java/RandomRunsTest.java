@@ -32,7 +32,7 @@ public final class RandomRunsTest {
     private final int seed;
     private final Random random;
     private final int circuits, reserved;
-    private final TelephoneTown town;
+    private final CountedTown town;
     private final PlainTown plain;
     private final List<List<int[]>> numbers = List.of(new ArrayList<>(), new ArrayList<>());
     private String wrong;
@@ -42,7 +42,7 @@ public final class RandomRunsTest {
         random = new Random(seed);
         circuits = random.nextInt(4) == 0 ? 1 + random.nextInt(18) : 1 + random.nextInt(4);
         reserved = random.nextInt(3) == 0 ? random.nextInt(4) - 1 : 0;
-        town = new TelephoneTown(circuits, reserved);
+        town = new CountedTown(circuits, reserved);
         plain = new PlainTown(circuits, reserved);
     }
 
@@ -71,71 +71,9 @@ public final class RandomRunsTest {
 
     // ---- one call on both
 
-    private static int onTown(TelephoneTown x, int[] c) {
-        switch (c[0]) {
-            case 0: return x.key(c[1]);
-            case 1: return x.keyless();
-            case 2: return x.plan(c[1], c[2], c[3], c[4], c[5]);
-            case 3: return x.member(c[1], c[2]);
-            case 4: return x.waiting(c[1], c[2], c[3]);
-            case 5: return x.feature(c[1], c[2], c[3] != 0);
-            case 6: return x.forward(c[1], c[2]);
-            case 7: return x.tariff(c[1], c[2], c[3], c[4], c[5]);
-            case 8: return x.credit(c[1], c[2]);
-            case 9: return x.hook(c[1], c[2] != 0);
-            case 10: return x.dial(c[1], c[2]);
-            case 11: return x.say(c[1], c[2]);
-            case 12: return x.spoil(c[1], c[2], c[3]);
-            case 13: return x.lose(c[1], c[2]);
-            case 14: return x.tick(c[1]);
-            case 15: return x.line(c[1], c[2]);
-            case 16: return x.partner(c[1]);
-            case 17: return x.heard(c[1]);
-            case 18: return x.circuit(c[1], c[2]);
-            case 19: return x.speech(c[1], c[2]);
-            case 20: return x.group(c[1], c[2], c[3]);
-            case 21: return x.room(c[1], c[2]);
-            case 22: return x.link(c[1], c[2]);
-            case 23: return x.bit(c[1], c[2], c[3]);
-            case 24: return x.record(c[1], c[2]);
-            default: return x.told(c[1]);
-        }
-    }
-
-    private static int onPlain(PlainTown x, int[] c) {
-        switch (c[0]) {
-            case 0: return x.key(c[1]);
-            case 1: return x.keyless();
-            case 2: return x.plan(c[1], c[2], c[3], c[4], c[5]);
-            case 3: return x.member(c[1], c[2]);
-            case 4: return x.waiting(c[1], c[2], c[3]);
-            case 5: return x.feature(c[1], c[2], c[3] != 0);
-            case 6: return x.forward(c[1], c[2]);
-            case 7: return x.tariff(c[1], c[2], c[3], c[4], c[5]);
-            case 8: return x.credit(c[1], c[2]);
-            case 9: return x.hook(c[1], c[2] != 0);
-            case 10: return x.dial(c[1], c[2]);
-            case 11: return x.say(c[1], c[2]);
-            case 12: return x.spoil(c[1], c[2], c[3]);
-            case 13: return x.lose(c[1], c[2]);
-            case 14: return x.tick(c[1]);
-            case 15: return x.line(c[1], c[2]);
-            case 16: return x.partner(c[1]);
-            case 17: return x.heard(c[1]);
-            case 18: return x.circuit(c[1], c[2]);
-            case 19: return x.speech(c[1], c[2]);
-            case 20: return x.group(c[1], c[2], c[3]);
-            case 21: return x.room(c[1], c[2]);
-            case 22: return x.link(c[1], c[2]);
-            case 23: return x.bit(c[1], c[2], c[3]);
-            case 24: return x.record(c[1], c[2]);
-            default: return x.told(c[1]);
-        }
-    }
-
     private int ask(int... call) {
-        int due = onPlain(plain, call);
-        int got = onTown(town, call);
+        int due = plain.ask(call);
+        int got = town.ask(call);
         if (got != due && wrong == null) {
             wrong = "call " + Arrays.toString(call) + " at " + plain.now + " answered " + got
                     + ", due is " + due;
