@@ -378,6 +378,20 @@ public final class LineBoundariesTest extends Bench {
         }
     }
 
+    static void promise16_rungAndLiftedInOneTick() {
+        // Line 5 is lifted in the tick in which line 0 or line 6 comes to its group.
+        for (int caller : new int[] {0, 6}) {
+            usualTown(1);
+            x.waiting(0, 0, 1);
+            x.member(0, 5);
+            lift(caller);
+            x.hook(5, true);
+            dialAll(caller, 7);
+            due("partner of " + caller, x.partner(caller), caller == 0 ? 5 : NONE);
+            dueState("state of " + caller, caller, caller == 0 ? TALK : WAITING);
+        }
+    }
+
     static void promise16_linesComeAheadOfTimes() {
         usualTown(1);
         lift(0);
@@ -425,13 +439,19 @@ public final class LineBoundariesTest extends Bench {
     }
 
     static void promise16_callsComeAsTheyWereMade() {
-        // Both ring for a group from one tick on; the one made later comes to wait ahead.
-        for (int first = 0; first <= 1; first++) {
+        // Both ring for a group from one tick on; the one made later comes to wait ahead. Another
+        // call that is soon over is made ahead of these, between them or behind them.
+        for (int i = 0; i < 6; i++) {
+            int first = i % 2, overAt = i / 2;
             usualTown(1);
             x.member(0, 4);
             x.member(0, 5);
+            if (overAt == 0) lift(6);
             lift(first);
+            if (overAt == 1) lift(6);
             lift(1 - first);
+            if (overAt == 2) lift(6);
+            dialAll(6, 9);
             x.dial(0, 7);
             x.dial(1, 7);
             x.tick(1);
@@ -456,6 +476,36 @@ public final class LineBoundariesTest extends Bench {
         for (int l = 4; l < 7; l++) due("member", x.line(l, 1), 5);
     }
 
+    static void promise16_aTickServesAllEightMembers() {
+        town(8, 0);
+        row(0, 1, 3, 0, 0, 7);
+        row(1, 1, 1, 0, 0, 7);
+        x.waiting(0, 0, 10);
+        for (int l = 8; l < 16; l++) call(l, 7);
+        x.tick(4);
+        due("eight wait", x.group(0, 0, 0), 8);
+        for (int l = 0; l < 8; l++) x.member(0, l);
+        x.tick(1);
+        due("none waits", x.group(0, 0, 0), 0);
+        for (int l = 0; l < 8; l++) due("line " + l, x.line(l, 1), 5);
+    }
+
+    static void promise16_aTickServesEachGroupOfBothExchanges() {
+        for (int e = 0; e < 2; e++) {
+            for (int g = 0; g < 3; g++) {
+                town(1, 0);
+                row(e, 1, 3, g, 0, 7);
+                x.waiting(e, g, 1);
+                call(8 * e, 7);
+                dueState("waits", 8 * e, WAITING);
+                x.member(g, 8 * e + 7);
+                x.tick(1);
+                dueState("rings", 8 * e, RINGING);
+                due("rung", x.line(8 * e + 7, 1), 5);
+            }
+        }
+    }
+
     // ---- 16: times
 
     static void promise16_dialling500() {
@@ -465,6 +515,20 @@ public final class LineBoundariesTest extends Bench {
         dueState("499", 0, DIALLING);
         x.tick(1);
         dueOver("500", 0, 1);
+    }
+
+    static void promise16_dialling500OfALaterCall() {
+        usualTown(1);
+        x.tick(100);
+        lift(0);
+        hang(0);
+        for (int l = 0; l < 2; l++) {
+            lift(l);
+            x.tick(499);
+            dueState("499", l, DIALLING);
+            x.tick(1);
+            dueOver("500", l, 1);
+        }
     }
 
     static void promise16_dialling500BehindTheLatestKey() {
@@ -549,6 +613,32 @@ public final class LineBoundariesTest extends Bench {
         due("line 1", x.line(1, 1), 5);
         x.tick(1);
         dueOver("600", 0, 4);
+    }
+
+    static void promise16_forwardedAt300ToAllKindsOfPlaces() {
+        // To the other exchange, to a room and to a group; line 1 has nothing to do with it then.
+        int[][] places = {{3, 2, 4}, {8}, {7}};
+        int[] partners = {100, 200, 5};
+        for (int i = 0; i < 3; i++) {
+            usualTown(1);
+            x.member(0, 5);
+            keys(places[i]);
+            x.forward(1, 2);
+            call(0, 2, 1);
+            x.tick(300);
+            due("rung no more", x.line(1, 1), 0);
+            due("keys", x.line(0, 7), places[i].length);
+            x.tick(4);
+            x.hook(5, true);
+            x.hook(12, true);
+            x.tick(4);
+            due("partner", x.partner(0), partners[i]);
+            lift(1);
+            due("line 1 has a call of its own", x.line(1, 1), 1);
+            hang(1);
+            due("talk", x.partner(0), partners[i]);
+            due("line 1 hung up", x.line(1, 1), 0);
+        }
     }
 
     static void promise16_forwardedToItselfItRingsAnew() {
@@ -799,6 +889,38 @@ public final class LineBoundariesTest extends Bench {
         hang(0);
         due("cause of line 0", x.line(0, 4), 0);
         dueOver("line 1", 1, 7);
+    }
+
+    static void promise17_hangingUpEndsItsOwnCallThoughThatIsOther() {
+        // Line 0 has called line 1, and is called by line 2.
+        for (int flashes = 0; flashes <= 1; flashes++) {
+            usualTown(1);
+            x.feature(0, 2, true);
+            talk(0, 1);
+            call(2, 2, 0);
+            flash(0);
+            if (flashes == 1) flash(0);
+            due("partner", x.partner(0), 2 - flashes);
+            hang(0);
+            dueOver("line 1", 1, 7);
+            dueOver("line 2", 2, 7);
+            due("calls", x.told(2), 0);
+            due("records", x.told(3), 2);
+            due("the first is active's", x.record(0, 0), flashes == 0 ? 2 : 0);
+        }
+    }
+
+    static void promise17_hungUpItHasNeitherActiveNorOther() {
+        flashTown();
+        hang(0);
+        int[] want = {0, 0, NONE, 0, 0, 0, NONE, 0, 0};
+        for (int what = 0; what < 9; what++) due("what " + what, x.line(0, what), want[what]);
+        hang(2);
+        for (int what = 0; what < 9; what++) {
+            due("what " + what, x.line(2, what), what == 4 ? 7 : want[what]);
+        }
+        call(3, 2);
+        for (int what = 0; what < 9; what++) due("then " + what, x.line(0, what), want[what]);
     }
 
     static void promise17_flashWithoutOtherIsNothing() {

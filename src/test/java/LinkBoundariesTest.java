@@ -301,7 +301,7 @@ public final class LinkBoundariesTest extends Forger {
     }
 
     static void promise24_fortyBitsAndEightForEachByte() {
-        for (int told : new int[] {0, 1, 5, 7, 63}) {
+        for (int told : new int[] {0, 1, 5, 7, 22, 38, 63}) {
             dueSpoiled("told " + told + " of 6", textTelling(told, 0, 1, 1, 1, IAM));
         }
         String unit = text(0, 1, 1, 1, IAM);
@@ -317,6 +317,16 @@ public final class LinkBoundariesTest extends Forger {
         int end = unit.length() - 8;
         for (int k = end - 16; k < end; k++) dueSpoiled("bit " + k, turned(unit, k));
         for (int k = 8; k < 32; k++) dueSpoiled("bit " + k, turned(unit, k));
+    }
+
+    static void promise24_onesAreCountedFromTheBodysFirstBit() {
+        // Four, five and more ones behind the first flag; no such BSN was sent, so it is no more.
+        for (int bsn : new int[] {1, 3, 7, 15, 31, 63, 127}) {
+            forge(2, NOTHING, (b, i, f, j) -> text(bsn, 1, 1, 1, IAM));
+            x.tick(1);
+            due("BSN " + bsn + ": spoiled", x.link(1, SPOILED), 0);
+            due("BSN " + bsn + ": got", x.link(1, GOT), 0);
+        }
     }
 
     static void promise24_theTwo0AreNotLookedAt() {
@@ -373,6 +383,21 @@ public final class LinkBoundariesTest extends Forger {
         for (int bsn : new int[] {1, 127}) {
             comeWith(NOTHING, bsn, 0, 1, 1, IAM);
             dueLink("k " + bsn + " of 0: no more", 0, 0, 1, 1);
+        }
+    }
+
+    static void promise24_bsnNextToWhatIsAcked() {
+        // One message is acked, and no other was sent: BSN 1 is told, 0, 2 and 3 are no more.
+        Runnable ringing = () -> {
+            call(8, 3, 2, 4);
+            x.tick(6);
+        };
+        for (int bsn = 0; bsn < 4; bsn++) {
+            int told = bsn;
+            forge(2, ringing, (b, i, f, j) -> text(told, 0, f, j, IAM));
+            dueLink("before", 1, 1, 1, 1);
+            x.tick(1);
+            dueLink("BSN " + bsn, 1, bsn == 1 ? 2 : 1, bsn == 1 ? 0 : 1, 1);
         }
     }
 

@@ -82,7 +82,11 @@ public final class LinkWindowTest extends Bench {
     }
 
     private static void acks(int count, int bsn) {
-        for (int i = 0; i < count; i++) tickWith(askAgain(), text(bsn, 1, forged % 128, 1));
+        acks(count, bsn, 1);
+    }
+
+    private static void acks(int count, int bsn, int bib) {
+        for (int i = 0; i < count; i++) tickWith(askAgain(), text(bsn, bib, forged % 128, 1));
     }
 
     private static void dueLink(String what, int made, int acked, int next) {
@@ -148,6 +152,34 @@ public final class LinkWindowTest extends Bench {
         dueLink("one is acked, one is made", 201, 1, 101);
         rels(5, 1);
         dueLink("again none", 201, 1, 101);
+    }
+
+    static void promise24_atTheBoundAllGoAgain() {
+        windowTown();
+        rels(148, 0);
+        acks(2, 0, 0);
+        dueLink("not asked yet", 150, 0, 100);
+        acks(1, 0, 0);
+        dueLink("another BIB: message 0 goes again", 150, 0, 1);
+        acks(98, 0, 0);
+        dueLink("and those behind it", 150, 0, 99);
+        acks(2, 0, 0);
+        dueLink("up to the bound", 150, 0, 100);
+    }
+
+    static void promise24_nextIsAckedIfItWasBelow() {
+        windowTown();
+        rels(148, 0);
+        acks(3, 0, 0);
+        dueLink("message 0 goes again", 150, 0, 1);
+        acks(2, 50, 0);
+        dueLink("not acked yet", 150, 0, 3);
+        acks(1, 50, 0);
+        dueLink("messages up to 49 need not go again", 150, 50, 51);
+        acks(2, 52, 0);
+        dueLink("on it goes", 150, 50, 53);
+        acks(1, 52, 0);
+        dueLink("NEXT is not below", 150, 52, 54);
     }
 
     static void promise24_allThatWereMadeAreSentInTheEnd() {

@@ -296,6 +296,87 @@ public final class MessageBoundariesTest extends Forger {
         due("no record there", x.told(3), 1);
     }
 
+    // ---- 20: in which order they go
+
+    /** Unit n of an exchange has this message; BSN and the indicators are as they are now. */
+    private static void dueUnit(String what, int exchange, int n, int fsn, int... message) {
+        String due = text(x.link(exchange, 3), x.link(exchange, 5), fsn, x.link(exchange, 4),
+                message);
+        dueText(what, bits(exchange, n), due);
+    }
+
+    static void promise20_placedAnewAheadOfTheCallThatComes() {
+        forge(3, SENT, 2, IAM, 0, 2, 2, 5);
+        x.tick(2);
+        int n = x.told(0) - 2;
+        dueUnit("IAM with the same keys", 1, n, 2, 1, IAM, 0, 2, 2, 4);
+        dueUnit("ACM", 1, n + 1, 3, 2, ACM);
+    }
+
+    /** By exchange 1 and back: there side A is circuit 0 and side B circuit 3. */
+    private static void tandemTown() {
+        town(4, 0);
+        row(0, 2, 2, 0, 0, 5);
+        row(1, 2, 2, 1, 0, 5);
+        row(0, 1, 0, 1, 0, 1);
+    }
+
+    static void promise20_acmAndAnmGoOn() {
+        tandemTown();
+        call(0, 5, 1);
+        x.tick(6);
+        due("ringing, IAM and ACM of exchange 1", x.link(1, 0), 2);
+        dueUnit("ACM", 1, x.told(0) - 1, 2, 0, ACM);
+        lift(1);
+        x.tick(2);
+        dueUnit("ANM", 1, x.told(0) - 1, 3, 0, ANM);
+    }
+
+    static void promise20_rlcAheadOfTheRelThatGoesOn() {
+        tandemTown();
+        call(0, 5, 1);
+        x.tick(10);
+        hang(0);
+        x.tick(3);
+        int n = x.told(0) - 2;
+        dueUnit("RLC to where REL came from", 1, n, 3, 0, RLC);
+        dueUnit("REL to the other side", 1, n + 1, 4, 3, REL, 7);
+    }
+
+    static void promise20_overTellsAAndThenB() {
+        // Exchange 1 sends its IAM in tick n and in each fifth one behind it, and it is lost. REL
+        // of exchange 0, whose call was SENT two ticks earlier, is lost too, and so is with it the
+        // BIB that asks for the IAM: all goes again from tick n + 501 on.
+        tandemTown();
+        int n = 4;
+        for (int i = 0; i < 500; i += 5) x.lose(1, n + i);
+        x.lose(0, n + 498);
+        call(0, 5, 1);
+        x.tick(n + 504 - x.told(0));
+        due("circuit 0", x.circuit(1, 0), CLEARING);
+        due("circuit 3", x.circuit(1, 3), CLEARING);
+        dueUnit("REL to side A", 1, n + 502, 2, 0, REL, 6);
+        dueUnit("REL to side B", 1, n + 503, 3, 3, REL, 6);
+    }
+
+    static void promise20_hangingUpActiveIsOverAheadOfOther() {
+        // Line 0 talks by circuit 3, and then by circuit 2.
+        usualTown(4);
+        x.feature(0, 2, true);
+        call(8, 3, 2, 0);
+        x.tick(4);
+        lift(0);
+        call(9, 3, 2, 0);
+        x.tick(4);
+        flash(0);
+        due("partner", x.partner(0), 102);
+        hang(0);
+        x.tick(1);
+        int n = x.told(0) - 2;
+        dueUnit("REL of active", 0, n, 5, 2, REL, 7);
+        dueUnit("REL of other", 0, n + 1, 6, 3, REL, 7);
+    }
+
     // ---- 24: messages that are not so
 
     /** An IAM in which one byte is another one, and the number of its bytes is as told. */
@@ -356,7 +437,7 @@ public final class MessageBoundariesTest extends Forger {
     }
 
     static void promise24_upToTwelveKeys() {
-        int[] twelve = {9, 9, 9, 9, 9, 9, 9, 9, 9, 9, 9, 9};
+        int[] twelve = {9, 9, 9, 9, 9, 9, 9, 9, 9, 9, 9, 8};
         forge(2, NOTHING, iam(0, 0, 12, twelve));
         dueDone("twelve are wrong here: REL", 1, 0, CLEARING, NONE);
         dueNothing("thirteen are told", 2, NOTHING, iam(0, 0, 13, twelve));

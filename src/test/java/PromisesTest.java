@@ -673,15 +673,6 @@ public final class PromisesTest extends Bench {
         due("now", x.told(0), 0);
         due("tick(1)", x.tick(1), 1);
         due("tick(1000)", x.tick(1000), 1001);
-        goBeyondWhatIsPromised();
-        for (int i = 0; i < 9998; i++) x.tick(1000);
-        due("near the end", x.tick(998), 9999999);
-        due("beyond it", x.tick(2), FULL);
-        due("bad ahead of full", x.tick(1001), BAD);
-        due("just there", x.tick(1), 10000000);
-        due("beyond it", x.tick(1), FULL);
-        due("spoil", x.spoil(0, 10100000, 0), 1);
-        due("spoil too late", x.spoil(0, 10100001, 0), BAD);
     }
 
     static void promise16_times() {
@@ -1305,21 +1296,6 @@ public final class PromisesTest extends Bench {
         hang(0);
         due("the zone of the first row", x.record(1, 1), 0);
         due("its line", x.record(1, 0), 0);
-    }
-
-    static void promise26_recordsKept() {
-        goBeyondWhatIsPromised();
-        town(1, 0);
-        usualPlan();
-        for (int i = 0; i < 302; i++) {
-            call(i % 8, 8);
-            hang(i % 8);
-        }
-        due("made", x.told(3), 302);
-        due("not kept", x.record(1, 0), NONE);
-        due("the first that is kept", x.record(2, 0), 2);
-        due("the latest", x.record(301, 0), 301 % 8);
-        due("none", x.record(302, 0), NONE);
     }
 
     // ---- 27

@@ -819,6 +819,20 @@ public final class SettingBoundariesTest extends Bench {
         }
     }
 
+    static void promise8_theFirstAndTheLastRowMayBeForwardedTo() {
+        town(1, 0);
+        for (int i = 0; i < 24; i++) row(0, 2, 0, i % 7 + 1, 0, i / 12, i % 12);
+        // Row 0 is line 1, row 1 line 2, row 23 line 3.
+        int[][] cases = {{0, 0, 1}, {1, 11, 3}};
+        for (int[] c : cases) {
+            keys(c[0], c[1]);
+            x.forward(2, 0);
+            call(0, 0, 1);
+            due("line " + c[2], x.line(c[2], 1), 5);
+            hang(0);
+        }
+    }
+
     /** Line 1 forwards to 2, that to 3, and so on for so many lines. */
     private static void forwardOn(int first, int count) {
         for (int l = first; l < first + count; l++) {
@@ -950,6 +964,9 @@ public final class SettingBoundariesTest extends Bench {
         x.tick(1000);
         dueState("without credit", 0, 3, 0);
         due("credit", x.line(0, 6), 0);
+        hang(0);
+        call(0, 8);
+        dueState("answered by day", 0, 3, 0);
     }
 
     static void promise9_theMostOfAllIsCharged() {

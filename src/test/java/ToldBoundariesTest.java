@@ -229,6 +229,50 @@ public final class ToldBoundariesTest extends Bench {
         due("cents", x.record(0, 4), 0);
     }
 
+    static void promise26_eachHasItsOwnCents() {
+        usualTown(1);
+        x.tariff(0, 5, 1000, 0, 1);
+        for (int i = 0; i < 3; i++) {
+            talk(0, 1);
+            hang(0);
+            hang(1);
+            due("cents", x.record(i, 4), 6);
+        }
+    }
+
+    static void promise26_callsThatAreOverLeaveNothingToLaterOnes() {
+        // Lines 12 and 13 talk for money; then calls by circuits come to their exchange.
+        usualTown(1);
+        x.tariff(0, 5, 10, 1, 1);
+        x.credit(12, 1000);
+        talk(12, 5);
+        hang(12);
+        hang(13);
+        due("one record", x.told(3), 1);
+        int credit = x.line(12, 6);
+        call(0, 3, 2, 6);
+        x.tick(4);
+        lift(14);
+        x.tick(20);
+        due("line 14's partner", x.partner(14), 100);
+        due("line 0's partner", x.partner(0), 100);
+        due("line 12 is not charged", x.line(12, 6), credit);
+        due("line 12 hears nothing", x.heard(12), 0);
+        hang(0);
+        x.tick(2);
+        due("one record more, of line 0", x.told(3), 2);
+        due("it is of line 0", x.record(1, 0), 0);
+        // And the other way round: a line's call behind one that came by a circuit.
+        hang(14);
+        x.tick(4);
+        call(14, 3, 2, 1);
+        x.tick(4);
+        lift(1);
+        x.tick(4);
+        due("line 14's partner", x.partner(14), 100);
+        due("line 1's partner", x.partner(1), 100);
+    }
+
     static void promise26_theZoneOfTheFirstRow() {
         // 2 1 is in zone 0, and forwards to 6 in zone 3.
         usualTown(1);
@@ -283,6 +327,15 @@ public final class ToldBoundariesTest extends Bench {
         due("clearing here, in there", x.told(4), 1);
         x.tick(2);
         due("clearing here, idle there", x.told(4), 1);
+        x.tick(2);
+        due("idle", x.told(4), 2);
+        call(8, 3, 2, 4);
+        due("idle here, out there", x.told(4), 1);
+        x.tick(2);
+        due("in here, out there", x.told(4), 1);
+        hang(8);
+        x.tick(2);
+        due("idle here, clearing there", x.told(4), 1);
         x.tick(2);
         due("idle", x.told(4), 2);
     }
