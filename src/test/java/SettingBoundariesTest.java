@@ -7,11 +7,12 @@ public final class SettingBoundariesTest extends Bench {
         runAll(SettingBoundariesTest.class);
     }
 
-    /** Each of these is BAD, the first one and those behind it alike. */
+    /** A call of which one number is open. */
     private interface OneNumber {
         int ask(int v);
     }
 
+    /** The numbers just outside of low .. high are BAD, and so are those farthest from it. */
     private static void dueOutside(String what, OneNumber call, int low, int high) {
         for (int v : new int[] {MIN, low - 1, high + 1, MAX}) {
             due(what + " " + v, call.ask(v), BAD);
