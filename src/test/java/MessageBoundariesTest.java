@@ -221,8 +221,10 @@ public final class MessageBoundariesTest extends Forger {
     }
 
     static void promise20_relAtClearingLeavesItSo() {
-        forge(4, OVER, 3, REL, 7);
-        dueDone("RLC goes", 1, 3, CLEARING, NONE);
+        for (int cause = 1; cause <= 8; cause++) {
+            forge(4, OVER, 3, REL, cause);
+            dueDone("RLC goes", 1, 3, CLEARING, NONE);
+        }
     }
 
     static void promise20_rlcAtClearingAlone() {
@@ -310,6 +312,19 @@ public final class MessageBoundariesTest extends Forger {
         x.tick(2);
         int n = x.told(0) - 2;
         dueUnit("IAM with the same keys", 1, n, 2, 1, IAM, 0, 2, 2, 4);
+        dueUnit("ACM", 1, n + 1, 3, 2, ACM);
+    }
+
+    static void promise20_placedAnewOnceForwarded() {
+        forge(3, () -> {
+            keys(3, 2, 4);
+            x.forward(9, 0);
+            call(8, 2);
+            x.dial(8, 1);
+        }, 2, IAM, 0, 2, 2, 5);
+        x.tick(2);
+        int n = x.told(0) - 2;
+        dueUnit("by the row and the keys it was forwarded to", 1, n, 2, 1, IAM, 1, 2, 2, 4);
         dueUnit("ACM", 1, n + 1, 3, 2, ACM);
     }
 
