@@ -48,6 +48,7 @@ public final class CombinedTest extends Forger {
             if (i >= 2) talk(0, 1);
             if (i == 3) for (int when = 0; when < 3; when++) forwards(1, when, 2, 5);
             x.feature(1, NOT_DISTURB, true);
+            x.feature(1, BARRED, i % 2 == 1);
             call(2, 2, 1);
             dueOver("case " + i, 2, 8);
             due("other", x.line(1, 3), 0);
@@ -114,11 +115,74 @@ public final class CombinedTest extends Forger {
         x.feature(1, HAS_WAITING, false);
         flash(1);
         due("flash answers", x.partner(1), 2);
-        flash(1);
-        due("and back", x.partner(1), 0);
+        int begin = x.told(0) - 1;
+        for (int i = 0; i < 3; i++) {
+            flash(1);
+            due("back and forth", x.partner(1), i % 2 == 0 ? 0 : 2);
+        }
         hang(1);
         dueOver("active", 0, 7);
         dueOver("other", 2, 7);
+        due("no other", x.line(1, 3), 0);
+        due("answered once", x.record(1, 2), begin);
+    }
+
+    static void promise7_toldWhileItRingsItRingsOn() {
+        // At 300 it is forwarded to line 7, or not, whatever else is told.
+        for (int i = 0; i < 2; i++) {
+            usualTown(1);
+            call(0, 2, 1);
+            tellAll(1);
+            if (i == 1) forwards(1, WITHOUT_ANSWER);
+            x.tick(299);
+            due("299", x.line(1, 1), 5);
+            x.tick(1);
+            due("300", x.line(1, 1), i == 1 ? 5 : 0);
+            due("line 7", x.line(7, 1), i == 1 ? 0 : 5);
+            x.tick(i == 1 ? 299 : 599);
+            dueState("599 of its line", 0, RINGING);
+            x.tick(1);
+            dueOver("600", 0, 4);
+        }
+    }
+
+    static void promise7_toldWhileItIsOtherItIsOtherStill() {
+        for (int i = 0; i < 3; i++) {
+            lineWithOther();
+            tellAll(1);
+            if (i == 1) forwards(1, WITHOUT_ANSWER);
+            if (i == 2) hang(2);
+            else x.tick(299);
+            due("299", x.line(1, 3), i == 2 ? 0 : 1);
+            x.tick(1);
+            due("300", x.line(1, 3), i == 1 ? 1 : 0);
+            x.tick(300);
+            due("600", x.line(1, 3), 0);
+            due("it talks on", x.partner(1), 0);
+        }
+    }
+
+    static void promise7_barredALineHasWaitingAllTheSame() {
+        usualTown(1);
+        x.feature(1, HAS_WAITING, true);
+        x.feature(1, BARRED, true);
+        talk(0, 1);
+        call(2, 2, 1);
+        due("other", x.line(1, 3), 1);
+    }
+
+    static void promise7_whoDoesNotDisturbIsRungAndHasAnOther() {
+        // Rung by another call, or with an OTHER: a further call fails by 8, not by 2.
+        usualTown(1);
+        call(0, 2, 1);
+        x.feature(1, NOT_DISTURB, true);
+        call(2, 2, 1);
+        dueOver("rung", 2, 8);
+        lineWithOther();
+        x.feature(1, NOT_DISTURB, true);
+        call(3, 2, 1);
+        dueOver("with an other", 3, 8);
+        due("other", x.line(1, 3), 1);
     }
 
     // ---- 8: forward
@@ -144,6 +208,151 @@ public final class CombinedTest extends Forger {
         call(2, 2, 1);
         due("no other", x.line(1, 3), 0);
         due("line 5", x.line(5, 1), 5);
+    }
+
+    static void promise8_atMostFiveInAnyZone() {
+        // Line i is 2 i, and forwards to the next one; the sixth forward is one too many.
+        for (int zone = 0; zone < 4; zone++) {
+            for (int first = 1; first <= 2; first++) {
+                town(1, 0);
+                for (int i = first; i < 8; i++) {
+                    row(0, 2, 0, i, zone, 2, i);
+                    if (i < 7) forwards(i, ALWAYS, 2, i + 1);
+                }
+                call(0, 2, first);
+                due("state", x.line(0, 2), first == 2 ? RINGING : NONE);
+                due("cause", x.line(0, 4), first == 2 ? 0 : 2);
+                due("line 7", x.line(7, 1), first == 2 ? 5 : 0);
+            }
+        }
+    }
+
+    static void promise8_withAnOtherTheNextIsForwarded() {
+        for (int when = 0; when < 2; when++) {
+            lineWithOther();
+            forwards(1, when, 2, 5);
+            call(3, 2, 1);
+            due("line 5", x.line(5, 1), 5);
+            due("other", x.line(1, 3), 1);
+            dueState("the other's caller", 2, RINGING);
+        }
+    }
+
+    static void promise8_whenBusyIsAlsoWhenRung() {
+        usualTown(1);
+        forwards(1, WHEN_BUSY, 2, 5);
+        call(0, 2, 1);
+        due("rung", x.line(1, 1), 5);
+        call(2, 2, 1);
+        due("line 5", x.line(5, 1), 5);
+        dueState("the first", 0, RINGING);
+    }
+
+    static void promise8_awayALineForwardsAllTheSame() {
+        for (int when = 0; when < 3; when++) {
+            usualTown(1);
+            x.member(0, 1);
+            call(0, 7);
+            x.tick(300);
+            due("away", x.line(1, 5), 1);
+            forwards(1, when, 2, 5);
+            call(2, 2, 1);
+            due("line 1", x.line(1, 1), when == ALWAYS ? 0 : 5);
+            x.tick(300);
+            due("line 5", x.line(5, 1), when == WHEN_BUSY ? 0 : 5);
+        }
+    }
+
+    /**
+     * Line 0 calls line 12 by circuit 0, and is forwarded to these keys, for nobody answers. Then
+     * exchange 1, whose ACM went before, makes so many messages.
+     */
+    private static void forwardedThere(int made, Runnable before, int... keys) {
+        usualTown(3);
+        before.run();
+        forwards(12, WITHOUT_ANSWER, keys);
+        call(0, 3, 2, 4);
+        x.tick(301);
+        due("rung for 299", x.line(12, 1), 5);
+        int madeBefore = x.link(1, 0);
+        x.tick(1);
+        due("rung no more", x.line(12, 1), 0);
+        due("messages", x.link(1, 0) - madeBefore, made);
+        x.tick(4);
+    }
+
+    static void promise8_forwardedByACircuitItRingsOn() {
+        forwardedThere(0, NOTHING, 2, 5);
+        dueState("line 13", 0, RINGING);
+        due("line 13", x.line(13, 1), 5);
+        forwardedThere(0, () -> {
+            x.feature(13, HAS_WAITING, true);
+            talk(8, 5);
+        }, 2, 5);
+        dueState("other of line 13", 0, RINGING);
+        due("other of line 13", x.line(13, 3), 1);
+        forwardedThere(0, () -> forwards(13, ALWAYS, 2, 6), 2, 5);
+        dueState("line 14, always", 0, RINGING);
+        due("line 14", x.line(14, 1), 5);
+        forwardedThere(0, () -> {
+            lift(13);
+            forwards(13, WHEN_BUSY, 2, 6);
+        }, 2, 5);
+        dueState("line 14, when busy", 0, RINGING);
+        due("line 14", x.line(14, 1), 5);
+        forwardedThere(0, () -> x.member(0, 13), 7);
+        dueState("the group's line 13", 0, RINGING);
+        due("line 13", x.line(13, 1), 5);
+        x.tick(300);
+        due("away", x.line(13, 5), 1);
+        due("it waits there", x.group(1, 0, 0), 1);
+        forwardedThere(0, () -> x.waiting(1, 0, 1), 7);
+        dueState("it waits there", 0, RINGING);
+        due("it waits there", x.group(1, 0, 0), 1);
+        forwardedThere(1, NOTHING, 3, 2, 5);
+        dueState("line 5", 0, RINGING);
+        due("line 5", x.line(5, 1), 5);
+        hang(0);
+        x.tick(4);
+        due("REL is on its way", x.line(5, 1), 5);
+        x.tick(1);
+        due("line 5 no more", x.line(5, 1), 0);
+        due("idle ones", x.told(4), 2);
+        x.tick(2);
+        due("idle ones", x.told(4), 3);
+        forwardedThere(1, NOTHING, 8);
+        dueState("the room", 0, TALK);
+        due("the room", x.room(1, 0), 1);
+    }
+
+    static void promise8_forwardedByACircuitItFails() {
+        forwardedThere(1, () -> x.feature(13, NOT_DISTURB, true), 2, 5);
+        dueOver("it does not disturb", 0, 8);
+        forwardedThere(1, () -> lift(13), 2, 5);
+        dueOver("busy", 0, 2);
+        forwardedThere(1, () -> forwards(13, ALWAYS, 2, 5), 2, 5);
+        dueOver("forwarded too often", 0, 2);
+        forwardedThere(1, NOTHING, 7);
+        dueOver("none may wait", 0, 2);
+        forwardedThere(1, NOTHING, 9);
+        dueOver("wrong", 0, 1);
+        forwardedThere(1, NOTHING, 3, 2);
+        dueOver("not whole", 0, 1);
+        forwardedThere(1, () -> {
+            call(1, 3, 2, 6);
+            call(2, 3, 2, 7);
+        }, 3, 2, 5);
+        dueOver("no circuit", 0, 3);
+        forwardedThere(1, () -> {
+            for (int l = 8; l < 16; l++) {
+                if (l != 12) call(l, 8);
+            }
+            row(0, 2, 1, 1, 0, 4);
+            call(1, 4, 8);
+            x.tick(4);
+        }, 8);
+        due("calls in the room", x.room(1, 0), 8);
+        dueOver("it is full", 0, 2);
     }
 
     static void promise8_withoutAnswerToOneThatRefuses() {
@@ -352,6 +561,28 @@ public final class CombinedTest extends Forger {
         due("line 1", x.line(1, 1), 0);
     }
 
+    static void promise5_rungNoMoreByAnyCall() {
+        // Line 9 is rung by a line, by a circuit, or forwarded; who called hangs up.
+        for (int i = 0; i < 3; i++) {
+            usualTown(1);
+            x.member(0, 9);
+            x.member(0, 10);
+            forwards(15, ALWAYS, 2, 1);
+            x.tick(10);
+            int caller = i == 1 ? 0 : 8;
+            if (i == 0) call(8, 2, 1);
+            if (i == 1) call(0, 3, 2, 1);
+            if (i == 2) call(8, 2, 7);
+            x.tick(4);
+            due("rung", x.line(9, 1), 5);
+            hang(caller);
+            x.tick(4);
+            due("rung no more", x.line(9, 1), 0);
+            call(11, 7);
+            due("line 10 was free for longer", x.line(10, 1), 5);
+        }
+    }
+
     static void promise5_anOtherThatIsOverIsNoMatterOfSince() {
         // Line 1 hung up ahead of line 3, though a call to it as OTHER ended behind that.
         usualTown(1);
@@ -391,6 +622,89 @@ public final class CombinedTest extends Forger {
             due("cause", x.line(1, 4), 7);
             due("tone", x.line(1, 1), 3);
         }
+    }
+
+    static void promise17_anOtherByACircuitIsOver() {
+        usualTown(2);
+        x.feature(1, HAS_WAITING, true);
+        talk(0, 1);
+        call(8, 3, 2, 1);
+        x.tick(2);
+        due("other", x.line(1, 3), 1);
+        hang(8);
+        x.tick(2);
+        due("none", x.line(1, 3), 0);
+        due("talk", x.partner(1), 0);
+    }
+
+    /** Line 1 has a call of its own, or of another one, as its ACTIVE. */
+    private static int talkOfKind(int kind) {
+        switch (kind) {
+            case 0:
+                talk(0, 1);
+                return 0;
+            case 1:
+                call(8, 3, 2, 1);
+                x.tick(4);
+                lift(1);
+                return 8;
+            case 2:
+                call(1, 3, 2, 4);
+                x.tick(4);
+                lift(12);
+                x.tick(4);
+                return 12;
+            case 3:
+                x.member(0, 1);
+                call(0, 7);
+                lift(1);
+                return 0;
+            default:
+                talk(1, 0);
+                return 0;
+        }
+    }
+
+    static void promise17_activeIsOverAndOtherStays() {
+        // OTHER is by a line or by a circuit, and rings or is on hold.
+        for (int i = 0; i < 20; i++) {
+            usualTown(4);
+            x.feature(1, HAS_WAITING, true);
+            int talks = talkOfKind(i % 5);
+            int calls = i / 5 % 2 == 0 ? 2 : 15;
+            if (calls == 2) call(2, 2, 1);
+            else call(15, 3, 2, 1);
+            x.tick(4);
+            boolean held = i >= 10;
+            if (held) {
+                flash(1);
+                flash(1);
+            }
+            due("case " + i + ": other", x.line(1, 3), held ? 2 : 1);
+            hang(talks);
+            x.tick(4);
+            dueOver("case " + i, 1, 7);
+            due("other", x.line(1, 3), held ? 2 : 1);
+            flash(1);
+            due("talk", x.line(1, 2), TALK);
+            due("partner", x.partner(1) >= 100 ? 15 : x.partner(1), calls);
+            due("no other", x.line(1, 3), 0);
+        }
+    }
+
+    static void promise17_inARoomWithoutCreditAndOtherStays() {
+        usualTown(1);
+        x.feature(1, HAS_WAITING, true);
+        x.tariff(0, 0, 50, 1, 1);
+        x.credit(1, 1);
+        call(1, 8);
+        int begin = x.told(0) - 1;
+        call(2, 2, 1);
+        due("other", x.line(1, 3), 1);
+        ticksUntil(begin + 51);
+        dueOver("no credit", 1, 5);
+        due("room", x.room(0, 0), 0);
+        due("other", x.line(1, 3), 1);
     }
 
     static void promise17_theCallOnHoldIsOver() {
@@ -532,6 +846,20 @@ public final class CombinedTest extends Forger {
     }
 
     // ---- 20: circuits
+
+    static void promise20_forwardedBackToWhereItCameFrom() {
+        usualTown(2);
+        forwards(12, ALWAYS, 3, 2, 5);
+        call(0, 3, 2, 4);
+        x.tick(4);
+        due("line 5", x.line(5, 1), 5);
+        dueState("sent", 0, SENT);
+        x.tick(4);
+        dueState("ACM went on", 0, RINGING);
+        lift(5);
+        x.tick(4);
+        dueState("ANM went on", 0, TALK);
+    }
 
     static void promise20_acmAndAnmComeThoughAcmWentBefore() {
         // Exchange 1 rings line 12, and then goes back by another circuit to line 5.

@@ -34,6 +34,12 @@ public final class MessageBoundariesTest extends Forger {
         x.tick(6);
     };
 
+    private static final Runnable COMING_TALK = () -> {
+        COMING.run();
+        lift(12);
+        x.tick(4);
+    };
+
     /** Line 8 hangs up in the tick in which the forged unit is sent. */
     private static final Runnable OVER = () -> {
         RINGING.run();
@@ -45,7 +51,7 @@ public final class MessageBoundariesTest extends Forger {
     private static int[] seen(int circuits, Runnable state, int... message) {
         forge(circuits, state, message);
         x.tick(1);
-        int[] seen = new int[circuits + 8];
+        int[] seen = new int[circuits + 9];
         for (int c = 0; c < circuits; c++) seen[c] = x.circuit(1, c);
         for (int i = 0; i < 3; i++) seen[circuits + i] = x.told(1 + i);
         seen[circuits + 3] = x.link(1, 0);
@@ -53,6 +59,7 @@ public final class MessageBoundariesTest extends Forger {
         seen[circuits + 5] = x.line(8, 2);
         seen[circuits + 6] = x.line(12, 1);
         seen[circuits + 7] = x.link(1, 6);
+        seen[circuits + 8] = x.line(12, 2);
         return seen;
     }
 
@@ -189,6 +196,7 @@ public final class MessageBoundariesTest extends Forger {
         dueNothing("ringing", 4, RINGING, 3, ACM);
         dueNothing("talk", 4, TALK, 3, ACM);
         dueNothing("in", 4, COMING, 0, ACM);
+        dueNothing("in and in talk", 4, COMING_TALK, 0, ACM);
         dueNothing("clearing", 4, OVER, 3, ACM);
     }
 
@@ -200,6 +208,7 @@ public final class MessageBoundariesTest extends Forger {
         dueNothing("idle", 4, NOTHING, 2, ANM);
         dueNothing("talk", 4, TALK, 3, ANM);
         dueNothing("in", 4, COMING, 0, ANM);
+        dueNothing("in and in talk", 4, COMING_TALK, 0, ANM);
         dueNothing("clearing", 4, OVER, 3, ANM);
     }
 
@@ -235,6 +244,7 @@ public final class MessageBoundariesTest extends Forger {
         dueNothing("ringing", 4, RINGING, 3, RLC);
         dueNothing("talk", 4, TALK, 3, RLC);
         dueNothing("in", 4, COMING, 0, RLC);
+        dueNothing("in and in talk", 4, COMING_TALK, 0, RLC);
     }
 
     static void promise20_anyByteIsACause() {
@@ -436,12 +446,14 @@ public final class MessageBoundariesTest extends Forger {
             keys(2, 5);
             x.forward(12, 0);
         };
-        forge(2, forwards, iam(0, 4, 2, 2, 4));
-        dueDone("the fifth", 1, 0, IN, NONE);
-        due("rung", x.line(13, 1), 5);
-        forge(2, forwards, iam(0, 5, 2, 2, 4));
-        dueDone("the sixth", 1, 0, CLEARING, NONE);
-        due("not rung", x.line(13, 1), 0);
+        for (int c = 0; c < 2; c++) {
+            forge(2, forwards, iam(c, 4, 2, 2, 4));
+            dueDone("the fifth", 1, c, IN, NONE);
+            due("rung", x.line(13, 1), 5);
+            forge(2, forwards, iam(c, 5, 2, 2, 4));
+            dueDone("the sixth", 1, c, CLEARING, NONE);
+            due("not rung", x.line(13, 1), 0);
+        }
     }
 
     static void promise24_otherNumbersOfKeysThanTold() {
