@@ -387,6 +387,47 @@ public final class CombinedTest extends Forger {
         }
     }
 
+    // ---- 12: dial
+
+    /** Line 0 has an ACTIVE in this state, or none. */
+    private static void lineInState(int state) {
+        usualTown(1);
+        x.waiting(0, 0, 1);
+        if (state == NONE) call(0, 9);
+        if (state == DIALLING) call(0, 2);
+        if (state == SENT) {
+            x.lose(0, 3);
+            call(0, 3, 2, 4);
+        }
+        if (state == RINGING) call(0, 2, 1);
+        if (state == WAITING) call(0, 7);
+        if (state == TALK) talk(0, 1);
+        dueState("at first", 0, state);
+    }
+
+    static void promise12_keysWaitForTheLoopInAllStates() {
+        for (int state = NONE; state <= WAITING; state++) {
+            lineInState(state);
+            x.hook(0, false);
+            x.tick(1);
+            for (int i = 0; i < 3; i++) x.dial(0, 11);
+            x.tick(1);
+            due("open: wait", x.line(0, 8), 3);
+            x.hook(0, true);
+            x.tick(1);
+            due("a pulse: wait", x.line(0, 8), 3);
+            if (state == SENT) continue;
+            x.tick(18);
+            due("19 ticks behind it", x.line(0, 8), 3);
+            x.tick(1);
+            due("the pulses' tick", x.line(0, 8), 3);
+            x.tick(1);
+            due("the first one", x.line(0, 8), 2);
+            x.tick(2);
+            due("all", x.line(0, 8), 0);
+        }
+    }
+
     // ---- 16: the times of a call that is forwarded begin anew
 
     static void promise16_forwardedToALineWithWaiting() {
@@ -791,6 +832,7 @@ public final class CombinedTest extends Forger {
         for (int holder = 0; holder < 2; holder++) {
             usualTown(1);
             x.tariff(0, 5, 10, 1, 1);
+            x.credit(holder, 1000);
             x.feature(1, HAS_WAITING, true);
             if (holder == 0) talk(0, 1);
             else talk(1, 0);
@@ -805,7 +847,43 @@ public final class CombinedTest extends Forger {
             due("begin", x.record(0, 2), began);
             due("end", x.record(0, 3), began + 139);
             due("cents", x.record(0, 4), 5 + 1 + 13);
+            due("credit", x.line(holder, 6), 1000 - 19);
         }
+    }
+
+    static void promise26_withoutCreditOnHold() {
+        // Line 1 calls 0, holds that call, and has no credit for it any more.
+        usualTown(1);
+        x.tariff(0, 5, 100, 1, 1);
+        x.credit(1, 6);
+        x.feature(1, HAS_WAITING, true);
+        talk(1, 0);
+        int began = x.told(0) - 1;
+        call(2, 2, 1);
+        flash(1);
+        due("line 1 talks to 2", x.partner(1), 2);
+        ticksUntil(began + 100);
+        due("on hold", x.line(1, 3), 2);
+        x.tick(1);
+        due("over", x.line(1, 3), 0);
+        dueOver("line 0", 0, 5);
+        due("line 1 talks on", x.partner(1), 2);
+        due("its cause is another", x.line(1, 4), 0);
+        due("cents", x.record(0, 4), 6);
+    }
+
+    static void promise26_creditOf0IsEnoughForNothing() {
+        // SETUP takes all there is; then each STEP costs nothing.
+        usualTown(1);
+        x.tariff(0, 7, 10, 0, 0);
+        x.credit(0, 7);
+        talk(0, 1);
+        due("none is left", x.line(0, 6), 0);
+        x.tick(100);
+        dueState("talk", 0, TALK);
+        x.tariff(0, 7, 10, 1, 1);
+        x.tick(10);
+        dueOver("a cent is too much", 0, 5);
     }
 
     static void promise26_flashIsNoSecondAnswer() {

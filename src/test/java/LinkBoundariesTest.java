@@ -4,7 +4,7 @@
  */
 public final class LinkBoundariesTest extends Forger {
     private static final String FLAG = "01111110";
-    private static final int ACKED = 1, NEXT = 2, GOT = 3, FIB = 4, BIB = 5, SPOILED = 6;
+    private static final int MADE = 0, ACKED = 1, NEXT = 2, GOT = 3, FIB = 4, BIB = 5, SPOILED = 6;
     private static final int[] IAM = {0, 1, 0, 2, 2, 4};
 
     public static void main(String[] args) throws ReflectiveOperationException {
@@ -298,11 +298,22 @@ public final class LinkBoundariesTest extends Forger {
         x.tick(1);
         due("with the 0: not spoiled", x.link(1, SPOILED), 0);
         due("with the 0: FSN is another, BIB is turned", x.link(1, BIB), 0);
+        // And one in the last byte of a message: 63 is six ones.
+        String release = text(0, 1, 1, 1, 0, 4, 63);
+        dueSpoiled("in a message", turned(release, release.indexOf("1111101", 40) + 5));
     }
 
     static void promise24_fortyBitsAndEightForEachByte() {
         for (int told : new int[] {0, 1, 5, 7, 22, 38, 63}) {
             dueSpoiled("told " + told + " of 6", textTelling(told, 0, 1, 1, 1, IAM));
+        }
+        for (int told = 0; told < 6; told++) {
+            for (int size = 0; size < 6; size++) {
+                int[] message = new int[size];
+                if (told != size) {
+                    dueSpoiled("told " + told, textTelling(told, 0, 1, 1, 1, message));
+                }
+            }
         }
         String unit = text(0, 1, 1, 1, IAM);
         int end = unit.length() - 8;
@@ -440,6 +451,23 @@ public final class LinkBoundariesTest extends Forger {
             comeWith(NOTHING, 0, 1, fsn, 1);
             dueLink("d " + fsn + " without", 0, 0, 1, 0);
         }
+    }
+
+    static void promise24_bibIsTurnedThoughMessagesAreToBeSent() {
+        // Three are made in the tick before that in which the unit comes.
+        Runnable three = () -> {
+            for (int l = 8; l < 11; l++) call(l, 3);
+            for (int l = 8; l < 11; l++) {
+                x.dial(l, 2);
+                x.dial(l, l - 6);
+            }
+        };
+        forge(4, three, (b, i, f, j) -> text(0, 1, 5, 1));
+        due("made", x.link(1, MADE), 3);
+        due("next", x.link(1, NEXT), 1);
+        x.tick(1);
+        dueLink("turned", 0, 0, 1, 0);
+        due("the next was sent", x.link(1, NEXT), 2);
     }
 
     static void promise24_bibIsTurnedAndTurnedAgain() {

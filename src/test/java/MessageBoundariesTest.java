@@ -459,6 +459,7 @@ public final class MessageBoundariesTest extends Forger {
     static void promise24_otherNumbersOfKeysThanTold() {
         for (int told : new int[] {0, 1, 3, 12, 13, 128, 255}) {
             dueNothing("told " + told, 2, NOTHING, iam(0, 0, told, 2, 4));
+            dueNothing("with five forwards", 2, NOTHING, iam(0, 5, told, 2, 4));
         }
         dueNothing("none is told to be none", 2, NOTHING, iam(0, 0, 1));
     }
@@ -477,7 +478,10 @@ public final class MessageBoundariesTest extends Forger {
         for (int k : new int[] {12, 15, 16, 20, 255}) {
             dueNothing("the last key " + k, 2, NOTHING, iam(0, 0, 2, 2, k));
             dueNothing("the first key " + k, 2, NOTHING, iam(0, 0, 2, k, 4));
+            dueNothing("with five forwards", 2, NOTHING, iam(0, 5, 2, 2, k));
         }
+        dueNothing("the last of twelve", 2, NOTHING,
+                iam(0, 0, 12, 9, 9, 9, 9, 9, 9, 9, 9, 9, 9, 9, 14));
     }
 
     static void promise24_tooFewBytes() {
