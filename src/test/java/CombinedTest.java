@@ -37,6 +37,24 @@ public final class CombinedTest extends Forger {
         due("other", x.line(1, 3), 1);
     }
 
+    // ---- 1: the example of README.md
+
+    static void promise1_theExampleOfReadme() {
+        town(4, 0);
+        x.key(2);
+        x.key(1);
+        due("plan", x.plan(0, 2, 0, 1, 0), 0);
+        x.hook(0, true);
+        x.tick(1);
+        x.dial(0, 2);
+        x.dial(0, 1);
+        x.tick(2);
+        due("line 1 is rung", x.line(1, 1), 5);
+        x.hook(1, true);
+        x.tick(1);
+        due("they talk", x.partner(0), 1);
+    }
+
     // ---- 7: features
 
     static void promise7_notDisturbAheadOfAllElse() {
